@@ -236,7 +236,7 @@ public final class PayChain {
 
         /** The byte at a place, or NONE if that is not before the end. */
         int atBefore(int i, int end) {
-            return i < end ? at(i) : NONE;
+            return i >= 0 && i < end && i < length ? bytes[i] : NONE;
         }
 
         void copy(Row other) {

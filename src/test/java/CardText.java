@@ -20,6 +20,20 @@ final class CardText {
         return new CardText().with(ACCOUNT, 2).with(END, 0, 100).with(LIST);
     }
 
+    /** An object whose card 0 sends every payment to the host, to account 2. */
+    static PayChain online(CardText text, int cardKey, int accountKey, int balance) {
+        PayChain x = new PayChain();
+        x.setting(2, 1);
+        x.setting(6, 65535);
+        x.account(2, balance, accountKey);
+        text.make(x, 0, cardKey, 1);
+        return x;
+    }
+
+    static PayChain online() {
+        return online(needed(), 7, 7, 1000);
+    }
+
     CardText with(int tag, int... value) {
         if (tag > 255) {
             bytes.add(tag / 256);

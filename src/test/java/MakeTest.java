@@ -6,6 +6,7 @@ public final class MakeTest {
         order(c);
         objectsAreCounted(c);
         newInPlaceOfOld(c);
+        madeAgainAndAgain(c);
         failureLeavesAll(c);
         cardsStandApart(c);
         c.end();
@@ -88,6 +89,33 @@ public final class MakeTest {
         x.pay(0, 10, 2, 0);
         c.due("nor do they count", x.last(1), 512 + 64);
         c.due("the new END", x.value(0, 24356, 1), 9);
+    }
+
+    /** Nothing of any earlier card of the place may shine through. */
+    private static void madeAgainAndAgain(Check c) {
+        PayChain x = new PayChain();
+        x.setting(2, 1);
+        x.setting(3, 1);
+        CardText rich = CardText.needed().with(142, 0, 0, 65, 0, 31, 0).around(97, new CardText().with(5).with(6));
+        CardText poor = CardText.needed();
+        CardText hollow = CardText.needed().with(6).with(97);
+        CardText[] texts = {rich, poor, hollow, rich, hollow, poor, rich, rich, poor, poor, hollow};
+        for (CardText text : texts) {
+            int objects = text == rich ? 7 : text == hollow ? 5 : 3;
+            c.due("make", text.make(x, 0, 7, 1), objects);
+            int[] fresh = {3, 0, 0, 0, objects, 2};
+            for (int what = 0; what < 6; what++) {
+                c.due("card(0, " + what + ")", x.card(0, what), fresh[what]);
+            }
+            c.due("142", x.value(0, 142, 2), text == rich ? 65 : PayChain.REFUSED);
+            c.due("97", x.inside(0, 97), text == rich ? 2 : text == hollow ? 0 : PayChain.REFUSED);
+            x.account(2, 1000, 7);
+            x.setting(6, 65535);
+            x.pay(0, 10, 2, 0);
+            x.setting(6, 0);
+            x.pay(0, 10, 2, 0);
+            c.due("RUN, SEEN", x.card(0, 2) * 10 + x.card(0, 3), 11);
+        }
     }
 
     private static void failureLeavesAll(Check c) {

@@ -35,6 +35,11 @@ public final class PlaceTest {
         bad(c, "length 255", 0, new CardText().raw(90, 255));
         bad(c, "129 without a length", 0, new CardText().raw(90, 129));
         bad(c, "behind a good one", 13, CardText.needed().with(5, 1).raw(90));
+        CardText many = new CardText();
+        for (int i = 0; i < 29; i++) {
+            many.with(5);
+        }
+        bad(c, "behind 29 good ones", 58, many.raw(5, 128));
         bad(c, "the first of two", 2, new CardText().with(5).raw(90, 128, 91, 128));
     }
 
