@@ -58,12 +58,20 @@ final class CardText {
         return this;
     }
 
+    CardText addAll(CardText other) {
+        bytes.addAll(other.bytes);
+        return this;
+    }
+
     int length() {
         return bytes.size();
     }
 
     /** Feeds the text, in place of what was there. */
     PayChain to(PayChain x) {
+        if (length() > 60) {
+            throw new IllegalStateException("a text of " + length() + " bytes has no room");
+        }
         x.wipe();
         for (int b : bytes) {
             x.feed(b);
@@ -73,6 +81,13 @@ final class CardText {
 
     int make(PayChain x, int card, int key, int pin) {
         return to(x).make(card, key, pin);
+    }
+
+    /** A new object whose card 0, with the key 7 and the PIN 1, is made of this text. */
+    PayChain asCard() {
+        PayChain x = new PayChain();
+        make(x, 0, 7, 1);
+        return x;
     }
 
     /** The answer of make for this text on a new object. */

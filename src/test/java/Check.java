@@ -1,3 +1,5 @@
+import java.util.function.LongSupplier;
+
 /** Counts the answers that are not as due, and ends the test with exit code 1 if there was one. */
 final class Check {
     private int checked;
@@ -17,6 +19,13 @@ final class Check {
             wrong++;
             System.out.println(what + ": is " + got + ", due is " + want);
         }
+    }
+
+    /** A call that has this answer, one below 0, and changes nothing that can be asked for but place. */
+    void unchanged(String what, PayChain x, LongSupplier call, int answer) {
+        String before = state(x);
+        due(what, call.getAsLong(), answer);
+        same("after " + what, state(x), before);
     }
 
     void end() {

@@ -119,21 +119,21 @@ public final class MakeTest {
     }
 
     private static void failureLeavesAll(Check c) {
-        PayChain x = new PayChain();
-        x.account(2, 1000, 7);
-        CardText.needed().with(40739, 3).make(x, 0, 7, 1);
-        x.pay(0, 10, 1, 0);
         CardText[] failing = {new CardText().raw(90), new CardText().with(90, 3),
             new CardText().with(90, 3).with(24356, 0, 1).with(140).with(40739, 9, 9)};
         for (CardText text : failing) {
+            PayChain x = new PayChain();
+            x.account(2, 1000, 7);
+            CardText.needed().with(40739, 3).make(x, 0, 7, 1);
+            x.pay(0, 10, 1, 0);
             text.to(x);
             String before = Check.state(x);
             c.due("a failing make", x.make(0, 8, 2) < 0 ? 1 : 0, 1);
             c.same("after it", Check.state(x), before);
+            x.wipe();
+            c.due("the old card pays on", x.pay(0, 10, 1, 0), PayChain.APPROVED);
+            c.due("with its old key", x.last(4), Check.mac(7, 2, 0, 2));
         }
-        x.wipe();
-        c.due("the old card pays on", x.pay(0, 10, 1, 0), PayChain.APPROVED);
-        c.due("with its old key", x.last(4), Check.mac(7, 2, 0, 2));
     }
 
     private static void cardsStandApart(Check c) {
