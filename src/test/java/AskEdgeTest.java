@@ -167,6 +167,7 @@ public final class AskEdgeTest {
         c.due("reversed ones stay approved", x.count(1) * 100 + x.count(3) * 10 + x.count(4), 310);
     }
 
+    /** What only asks leaves all as it was. */
     private static void askingChangesNothing(Check c) {
         PayChain x = CardText.online(new CardText().with(140, 159, 2, 2).addAll(CardText.needed()), 7, 7, 1000);
         x.pay(0, 10, -1, 2);

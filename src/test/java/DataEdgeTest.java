@@ -60,6 +60,7 @@ public final class DataEdgeTest {
         }
     }
 
+    /** "so many bytes as its size": none without a demand, and none of the size 0 */
     private static void noDemand(Check c) {
         PayChain empty = with(AMOUNT);
         empty.pay(0, 5, -1, 0);
@@ -72,6 +73,7 @@ public final class DataEdgeTest {
         dataIs(c, "size 0 between others", between, 5, 1, 0, 2, 0);
     }
 
+    /** "of the tag 40706 the amount .. as the lowest bytes of it" */
     private static void amounts(Check c) {
         int[] amounts = {1, 127, 128, 255, 256, 257, 32768, 65535, 65536, 65537, 999999};
         for (int amount : amounts) {
@@ -81,6 +83,7 @@ public final class DataEdgeTest {
         }
     }
 
+    /** "149 the FLAGS", as they are in step 5 */
     private static void flags(Check c) {
         PayChain x = with(FLAGS, 1, 2, 3, 4, 5);
         x.setting(0, 10);
@@ -102,6 +105,7 @@ public final class DataEdgeTest {
         dataIs(c, "no flag", x, 0, 1, 2, 3, 4, 5);
     }
 
+    /** "154 the day" */
     private static void days(Check c) {
         int[] days = {0, 1, 255, 256, 32768, 65535};
         for (int day : days) {

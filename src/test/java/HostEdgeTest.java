@@ -66,6 +66,7 @@ public final class HostEdgeTest {
         }
     }
 
+    /** "the balance falls by the amount", from the largest down to nothing */
     private static void largestBalance(Check c) {
         PayChain x = CardText.online(CardText.needed(), 7, 7, 9999999);
         for (int i = 1; i <= 10; i++) {

@@ -94,6 +94,7 @@ public final class ObjectEdgeTest {
         }
     }
 
+    /** "the byte 129 and the length as one byte more", which may be any byte */
     private static void everyLongLength(Check c) {
         int room = 60 - BEFORE - 3;
         for (int length = 0; length <= 255; length++) {
@@ -186,6 +187,7 @@ public final class ObjectEdgeTest {
         bad(c, "too deep and cut off too", BEFORE + 8, broken);
     }
 
+    /** "inside of more than three others": those beside it do not count. */
     private static void depthIsCountedAnew(Check c) {
         CardText text = new CardText();
         for (int i = 0; i < 2; i++) {

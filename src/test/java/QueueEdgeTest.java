@@ -124,6 +124,7 @@ public final class QueueEdgeTest {
         }
     }
 
+    /** "none there: REFUSED" */
     private static void noneThere(Check c) {
         for (int fate = 0; fate <= 2; fate++) {
             c.due("of a new object", new PayChain().send(fate), PayChain.REFUSED);
@@ -167,6 +168,7 @@ public final class QueueEdgeTest {
         c.due("count(4)", x.count(4), 0);
     }
 
+    /** "if that payment got CODE 1": with none, 2, 3 or 4 nothing is given back. */
     private static void onlyCodeOneIsGivenBack(Check c) {
         PayChain lost = CardText.online();
         lost.pay(0, 10, -1, 1);

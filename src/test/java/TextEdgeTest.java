@@ -133,6 +133,7 @@ public final class TextEdgeTest {
         c.due("make", x.make(0, 7, 1), PayChain.UNFIT);
     }
 
+    /** "The text is empty", and nothing else is changed. */
     private static void wipeLeavesAllElse(Check c) {
         PayChain x = CardText.online();
         x.pay(0, 10, -1, 2);
@@ -156,6 +157,7 @@ public final class TextEdgeTest {
         }
     }
 
+    /** The same with a text that has no more room. */
     private static void failedMakeLeavesAFullText(Check c) {
         PayChain bad = new PayChain();
         for (int i = 0; i < 60; i++) {
