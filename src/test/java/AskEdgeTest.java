@@ -1,7 +1,7 @@
-/** Promises 10 and 12 to 17 at their edges: what is asked for and is not there is REFUSED, and asking changes nothing. */
+/** Promises 10 and 12 to 17 at their edges: what is not there is REFUSED, and asking changes nothing. */
 public final class AskEdgeTest {
-    private static final int[] ODD = {Integer.MIN_VALUE, Integer.MIN_VALUE + 1, -257, -256, -4, -3, -2, -1, 0, 1, 2, 3, 4,
-        5, 6, 7, 8, 9, 10, 59, 60, 90, 140, 255, 256, 24356, 65535, 65536, Integer.MAX_VALUE - 1, Integer.MAX_VALUE};
+    private static final int[] ODD = {Integer.MIN_VALUE, Integer.MIN_VALUE + 1, -257, -256, -4, -3, -2, -1, 0, 1, 2, 3,
+        4, 5, 6, 7, 8, 9, 10, 59, 60, 90, 140, 255, 256, 24356, 65535, 65536, Integer.MAX_VALUE - 1, Integer.MAX_VALUE};
 
     public static void main(String[] args) {
         Check c = new Check();

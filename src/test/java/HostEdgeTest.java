@@ -8,6 +8,7 @@ public final class HostEdgeTest {
         largestBalance(c);
         counterAtLast(c);
         lastIsKept(c);
+        lastIsNotSet(c);
         orderOfCodes(c);
         everyBitOfTheKey(c);
         counterOverOneByte(c);
@@ -100,7 +101,8 @@ public final class HostEdgeTest {
 
     /** "LAST = COUNTER" with CODE 1 and 4, and only then; it is that of the account, and "account" sets it to 0 */
     private static void lastIsKept(Check c) {
-        int[][] rows = {{1000, 7, 0, 3}, {0, 7, 0, 3}, {1000, 8, 0, 1}, {1000, 7, 1, 1}, {1000, 7, 2, 3}, {1000, 7, 3, 3}};
+        int[][] rows = {{1000, 7, 0, 3}, {0, 7, 0, 3}, {1000, 8, 0, 1}, {1000, 7, 1, 1}, {1000, 7, 2, 3},
+            {1000, 7, 3, 3}};
         for (int[] r : rows) {
             PayChain x = CardText.online(CardText.needed(), r[1], 7, r[0]);
             CardText.needed().make(x, 1, 7, 1);
@@ -119,6 +121,32 @@ public final class HostEdgeTest {
         x.pay(0, 1, -1, 0);
         x.pay(1, 1, -1, 0);
         c.due("each account has its own", x.last(7), 1);
+    }
+
+    /** "3 if COUNTER is not above": neither CODE 3 nor CODE 2 sets LAST, to less or to more. */
+    private static void lastIsNotSet(Check c) {
+        PayChain x = CardText.online();
+        CardText.needed().make(x, 1, 7, 1);
+        CardText.needed().make(x, 2, 8, 1);
+        CardText.needed().make(x, 3, 7, 1);
+        for (int i = 0; i < 3; i++) {
+            x.pay(0, 1, -1, 0);
+        }
+        x.pay(1, 1, -1, 0);
+        c.due("COUNTER 1, LAST 3", x.last(7), 3);
+        x.pay(1, 1, -1, 0);
+        c.due("COUNTER 2: LAST was not set to less", x.last(7), 3);
+        for (int i = 0; i < 5; i++) {
+            x.pay(2, 1, -1, 0);
+            c.due("another key, COUNTER " + (i + 1), x.last(7), 2);
+        }
+        x.pay(1, 1, -1, 0);
+        c.due("COUNTER 3: LAST was not set to less", x.last(7), 3);
+        x.pay(1, 1, -1, 0);
+        c.due("COUNTER 4: LAST was not set to more", x.last(7), 1);
+        x.pay(3, 1, -1, 0);
+        c.due("COUNTER 1, LAST 4", x.last(7), 3);
+        c.due("balance", x.balance(2), 996);
     }
 
     /** "CODE 2 if ..; else 3 if ..; else .. CODE 4 if .., else CODE 1" */

@@ -386,5 +386,10 @@ public final class MakeEdgeTest {
         c.due("its COUNTER is not above LAST", x.last(7), 3);
         c.due("reversals stay", x.queued(0), 2);
         c.due("payments go on", x.last(8), 3);
+        CardText.needed().around(97, new CardText().with(5)).make(x, 0, 7, 1);
+        c.due("a third one", x.inside(0, 97) * 10 + x.card(0, 1), 10);
+        CardText.needed().with(5).with(97).make(x, 0, 7, 1);
+        c.due("a fourth one has nothing of the others", x.inside(0, 97) * 10 + x.card(0, 1), 0);
+        c.due("nor their rules", x.value(0, 142, 0), PayChain.REFUSED);
     }
 }

@@ -1,4 +1,4 @@
-/** Steps 1, 3, 4, 6 and 7 of a payment at their edges (promises 7 and 8): each method has the sentence that it tests. */
+/** Promises 7 and 8 at their edges, steps 1, 3, 4, 6 and 7: each method has the sentence that it tests. */
 public final class RiskEdgeTest {
     private static final int NEW = 512;
     private static final int ABOVE_FLOOR = 64;
